@@ -102,11 +102,23 @@ public final class ClimbsTest {
             CHECK.due("setMark() number " + i, x.setMark(), Math.min(i, 10));
         }
         CHECK.due("marks()", x.marks(), 10);
+        altitudesOfAll();
         for (int mark = 0; mark < 10; mark++) {
             int set = mark + 3;
             CHECK.due("markTime(" + mark + ")", x.markTime(mark), set * (set + 1) / 2);
             CHECK.due("markAltitude(" + mark + ")", x.markAltitude(mark), 830 * (set % 2));
             CHECK.due("climbed(0, " + mark + ")", x.climbed(0, mark), 830 * ((set + 1) / 2 - 2));
+        }
+    }
+
+    private static void altitudesOfAll() {
+        AltimeterWatch x = new AltimeterWatch();
+        for (int i = 1; i <= 13; i++) {
+            x.travel(1, 10132 - 10 * i);
+            x.setMark();
+        }
+        for (int mark = 0; mark < 10; mark++) {
+            CHECK.due("markAltitude(" + mark + ") of a climb", x.markAltitude(mark), 83 * (mark + 4));
         }
     }
 

@@ -41,13 +41,12 @@ public final class FaceTest {
 
     private static void checkMethods(Check check, Class<?> watch) {
         Set<String> due = new TreeSet<>(Set.of(FACE));
-        Set<String> publicNames = new HashSet<>();
+        Set<String> publicNames = publicNames(watch);
         Set<String> got = new TreeSet<>();
         for (Method method : watch.getDeclaredMethods()) {
             if (Modifier.isPublic(method.getModifiers())) {
                 check.due(method.getName() + " modifiers", Modifier.toString(method.getModifiers()), "public");
                 got.add(signature(method));
-                publicNames.add(method.getName());
             }
         }
         check.due("number of public methods", FACE.length, 40);
@@ -58,6 +57,16 @@ public final class FaceTest {
                 check.due(method + " bears a public name", publicNames.contains(method.getName()), false);
             }
         }
+    }
+
+    private static Set<String> publicNames(Class<?> watch) {
+        Set<String> names = new HashSet<>();
+        for (Method method : watch.getDeclaredMethods()) {
+            if (Modifier.isPublic(method.getModifiers())) {
+                names.add(method.getName());
+            }
+        }
+        return names;
     }
 
     private static String signature(Method method) {
@@ -95,11 +104,15 @@ public final class FaceTest {
 
     private static void checkClasses(Check check, Class<?> watch) {
         check.due("number of classes", watch.getDeclaredClasses().length <= 12, true);
+        Set<String> publicNames = publicNames(watch);
         for (Class<?> inside : watch.getDeclaredClasses()) {
             int modifiers = inside.getModifiers();
             boolean hidden = !Modifier.isPublic(modifiers) && !Modifier.isProtected(modifiers);
             check.due(inside + " is hidden", hidden, true);
             check.due(inside + " is static", Modifier.isStatic(modifiers), true);
+            for (Method method : inside.getDeclaredMethods()) {
+                check.due(method + " bears a public name", publicNames.contains(method.getName()), false);
+            }
         }
     }
 }

@@ -46,6 +46,11 @@ public final class ForecastTest {
         x.setThreshold(500);
         CHECK.due("ascentIn(1, 9982) with the threshold 500", x.ascentIn(1, 9982), 0);
         CHECK.due("ascentIn(1, 9932) with the threshold 500", x.ascentIn(1, 9932), 830);
+        x.travel(1, 9992);
+        x.setThreshold(100);
+        // The altitude is 332 above the base now, but it is taken only after the next minute.
+        CHECK.due("ascentIn(1, 10032) back to the base", x.ascentIn(1, 10032), 0);
+        CHECK.due("ascentIn(2, 10032) back to the base", x.ascentIn(2, 10032), 166);
         x.setStation(true);
         CHECK.due("ascentIn(10, 5000) at the station", x.ascentIn(10, 5000), 0);
     }

@@ -11,6 +11,7 @@ public final class TripTextTest {
         numbersOfEveryKind();
         wholeTexts();
         textsThatAreNotWhole();
+        charactersBehindTheText();
         runOfManyParts();
         runIsLikeTheCalls();
         runIsUndoneAsOneCall();
@@ -147,6 +148,19 @@ public final class TripTextTest {
             CHECK.due("marks() after it", x.marks(), 1);
             CHECK.due("clearText() after it", x.clearText(), text.length());
         }
+    }
+
+    /** What was in the buffer before it was emptied is no part of the next text. */
+    private static void charactersBehindTheText() {
+        AltimeterWatch x = Check.typed(new AltimeterWatch(), "c999");
+        x.clearText();
+        Check.typed(x, "c99").run();
+        CHECK.due("drift() after \"c99\"", x.drift(), -99);
+        Check.typed(x, "5>5000");
+        x.clearText();
+        Check.typed(x, "5>500");
+        CHECK.refused("run() of \"5>500\"", x, ARGUMENT, () -> x.run());
+        CHECK.due("firstError() of \"5>500\"", x.firstError(), 5);
     }
 
     private static void runOfManyParts() {

@@ -8,6 +8,7 @@ public final class UndoTest {
         undo();
         sixStates();
         undoRestoresEverything();
+        stationAltitudeIsRestored();
         callsThatSaveNothing();
         store();
         recall();
@@ -70,6 +71,20 @@ public final class UndoTest {
         CHECK.due("everything after undo()", everything(x), before);
     }
 
+    /** The station altitude shows only when the pressure changes. */
+    private static void stationAltitudeIsRestored() {
+        AltimeterWatch x = new AltimeterWatch();
+        x.setStation(true);
+        x.store(0);
+        x.setSea(10032);
+        x.undo();
+        CHECK.due("altitudeAfter(1, 10032) after undo()", x.altitudeAfter(1, 10032), 0);
+        x.setSea(10032);
+        x.recall(0);
+        CHECK.due("altitudeAfter(1, 10032) after recall(0)", x.altitudeAfter(1, 10032), 0);
+        CHECK.due("travel(1, 10032) after recall(0)", x.travel(1, 10032), 0);
+    }
+
     private static AltimeterWatch eventful() {
         AltimeterWatch x = new AltimeterWatch();
         x.setMark();
@@ -91,7 +106,7 @@ public final class UndoTest {
         for (int perMinute = 1; perMinute <= 20; perMinute++) {
             all.append(' ').append(x.minutesToAlarm(perMinute));
         }
-        all.append(' ').append(x.altitudeAfter(5, 8000)).append(' ').append(x.ascentIn(5, 8000));
+        all.append(' ').append(x.altitudeAfter(5, 9750)).append(' ').append(x.ascentIn(5, 8000));
         for (int mark = 0; mark < x.marks(); mark++) {
             all.append(' ').append(x.markTime(mark)).append(' ').append(x.markAltitude(mark));
         }
@@ -217,6 +232,11 @@ public final class UndoTest {
         }
         CHECK.due("digest() with all marks", x.digest(), hash(x));
         CHECK.due("savedStates() after digest()", x.savedStates(), 6);
+        // With these settings some pressure has the altitude 999 or 1000, so that 999, 1000 and 1001 are told apart.
+        for (int sea = 9800; sea <= 9830; sea++) {
+            x.setSea(sea);
+            CHECK.due("digest() with the sea setting " + sea, x.digest(), hash(x));
+        }
     }
 
     private static long hash(AltimeterWatch x) {
