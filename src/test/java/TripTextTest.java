@@ -72,7 +72,7 @@ public final class TripTextTest {
             errorAt(text, 0);
             errorAt("s;" + text, 2);
         }
-        String[] seconds = {"ss", "s5", "mc", "c;", "c-", "cc", "c>", "5;", "5s", "s>", "m ;".replace(" ", "!"), "5/", "5:"};
+        String[] seconds = {"ss", "s5", "mc", "c;", "c-", "cc", "c>", "5;", "5s", "s>", "m!;", "5/", "5:"};
         for (String text : seconds) {
             errorAt(text, 1);
             errorAt("120>11000;" + text + ";s", 11);
