@@ -8,9 +8,28 @@ final class Check {
     private final String name;
     private int checked;
     private int wrong;
+    private int sentences;
 
     Check(String name) {
         this.name = name;
+    }
+
+    /** A test of its own for one sentence of the document; what goes wrong in it is told under that sentence. */
+    void sentence(String sentence, Runnable test) {
+        int checkedBefore = checked;
+        int wrongBefore = wrong;
+        String thrown = "nothing";
+        try {
+            test.run();
+        } catch (RuntimeException e) {
+            thrown = e.toString();
+        }
+        due("the test throws", thrown, "nothing");
+        due("the test checks something", checked > checkedBefore + 1, true);
+        sentences++;
+        if (wrong > wrongBefore) {
+            System.out.println(name + ": broken is \"" + sentence + "\"");
+        }
     }
 
     void due(String call, long got, long want) {
@@ -32,18 +51,23 @@ final class Check {
     /** The call must throw an exception of exactly this class, and change nothing that digest and the others tell. */
     void refused(String call, AltimeterWatch watch, Class<? extends RuntimeException> exception, Call made) {
         String before = visible(watch);
-        String thrown = "nothing";
-        try {
-            made.make();
-        } catch (RuntimeException e) {
-            thrown = e.getClass().getName();
-        }
-        due(call + " throws", thrown, exception.getName());
+        due(call + " throws", thrownBy(made), exception.getName());
         due(call + " leaves", visible(watch), before);
     }
 
+    /** The name of the exception's class, or "nothing". */
+    static String thrownBy(Call made) {
+        try {
+            made.make();
+        } catch (RuntimeException e) {
+            return e.getClass().getName();
+        }
+        return "nothing";
+    }
+
     void end() {
-        System.out.println(name + ": " + checked + " answers, " + wrong + " wrong");
+        String told = sentences > 0 ? sentences + " sentences, " : "";
+        System.out.println(name + ": " + told + checked + " answers, " + wrong + " wrong");
         if (wrong > 0 || checked == 0) {
             System.exit(1);
         }
